@@ -1840,7 +1840,6 @@ public final class LeaningWheel {
 
         /** A cost and its days are one number, the cost above MOST_DAYS bits, so that like costs go by the days. */
         void keep(int days, int move, int k, int loss) {
-            Arrays.fill(played, FAR);
             played[0] = 0;
             for (int day = 0; day < days; day++) {
                 long moved = FAR;

@@ -151,6 +151,10 @@ public final class BookTest {
         c.due("20: four of them, last", x.nine(0, 4, 13), 9);
         c.due("20: among", x.nine(0, 3, 1), x.among(9, 7, 3));
         c.due("20: among just", x.nine(0, 1, 1), 397841);
+        LeaningWheel one = new LeaningWheel(12);
+        one.write(0, 0, 0, 4);
+        c.due("20: one fall", one.nine(0, 1, 1), 1000000);
+        c.due("20: where it is", one.nine(0, 1, 10), 4);
         c.due("20: no such place", x.nine(0, 3, 13), -1);
         int[][] wrong = {{-1, 1, 0}, {4, 1, 0}, {0, 0, 0}, {0, 10, 0}, {0, 3, -1}, {0, 3, 2}, {0, 3, 9}, {0, MIN, MAX},
             {0, 3, MIN}};
@@ -262,6 +266,7 @@ public final class BookTest {
             c.due("28: wrong", x.run(w[0], w[1], w[2], w[3], w[4]), -1);
         }
         c.due("28: no spins", x.run(0, 3, 2, 9999, 1), 9999);
+        c.due("28: a purse of 1", x.run(0, 0, 0, 1, 0), 1);
     }
 
     private static void bets() {
@@ -285,6 +290,7 @@ public final class BookTest {
         c.due("30: won", x.watched(1, 1), 1);
         c.due("30: odds", x.watched(1, 2), 190000);
         c.due("30: odds of one", x.watched(2, 2), 100000);
+        c.due("30: the last bettor", x.watched(3, 0), 0);
         int[][] asked = {{-1, 0}, {4, 0}, {1, -1}, {1, 3}, {MIN, MIN}};
         for (int[] w : asked) {
             c.due("30: wrong", x.watched(w[0], w[1]), -1);
@@ -321,11 +327,23 @@ public final class BookTest {
         c.due("35: the fault stays", x.fault(1), 0);
         c.due("35: tilt and law", x.drop(0, 0, 12, 0, 0, 0), 4);
         change(x);
+        c.due("34: likeliest ahead of it", x.which(0, 0), 3);
         c.due("34: a later image", x.image(), 2);
+        x.scratch(0, 0, 1);
+        x.tilt(1, 20);
+        x.late(10, 0, 0, 0, 0);
+        x.pocket(0, 1, 10, 10);
+        x.stud(0, 1, 10, 0, 0, 0);
+        c.due("35: likeliest since", x.which(0, 0), 1);
+        c.due("35: falls since", x.falls(1, -1), 2);
         c.due("35: back to it", x.back(), 2);
         c.due("35: with its law", x.drop(0, 0, 12, 0, 0, 0), 3);
         c.due("35: with its tilt", x.drop(1, 0, 12, 0, 0, 0), 4);
         c.due("35: with its scratch", x.which(0, 0), 3);
+        c.due("35: with its falls", x.falls(3, -1), 2);
+        c.due("35: with its late", x.foretold(0, 0, 8, 0, 0, 0), 2);
+        c.due("35: with its leans", x.about(20), 189);
+        c.due("35: with its skips and holds", x.drop(0, 0, 1, 0, 0, 102), 500);
         c.due("35: with its shoe", x.shoe(0), 0);
         c.due("35: with its bets", x.watched(0, 1), 1);
         c.due("35: with its starts", x.odds(0, 0, -1), 3000);

@@ -85,6 +85,10 @@ public final class OddsTest {
         need(37, 500, 38, 500, 3, 2);
         need(37, 100, 20, 900, -1, -1);
         need(5, 400, 20, 500, 14, 6);
+        need(12, 195, 200, 500, 60, 12);
+        // 61 would do.
+        need(12, 218, 200, 700, -1, -1);
+        need(5, 1, 5, 1, 1, 1);
         need(5, 200, 20, 500, -1, -1);
         LeaningWheel x = new LeaningWheel(5);
         int[][] wrong = {{0, 5, 500, 0}, {1000, 5, 500, 0}, {900, 1, 500, 0}, {900, 1000001, 500, 0}, {900, 5, 0, 0},
@@ -137,6 +141,8 @@ public final class OddsTest {
         c.due("27: no day is asked for", x.luck(4, 0, 20, 20), 1000000);
         c.due("27: one of three days", x.luck(3, 1, 5, 2), 20609);
         c.due("27: a day", x.luck(1, 1, 20, 2), x.above(20, 2, 1));
+        c.due("27: a bet", x.luck(1, 1, 1, 1), 27027);
+        c.due("27: every day", x.luck(4, 4, 20, 1), 31678);
         int[][] wrong = {{0, 0, 1, 0}, {5, 0, 1, 0}, {2, -1, 1, 0}, {2, 3, 1, 0}, {2, 1, 0, 0}, {2, 1, 21, 0},
             {2, 1, 5, -1}, {2, 1, 5, 6}, {MIN, MIN, MIN, MIN}, {MAX, MAX, MAX, MAX}};
         for (int[] w : wrong) {
@@ -156,6 +162,7 @@ public final class OddsTest {
         house(20, 9999, 0, 9999, 199980, 0);
         house(20, 9999, 20, 9999, 0, 0);
         house(20, 0, 0, 5, 100, 0);
+        house(20, 3, 0, 0, 0, 0);
         // Free moves: of like ones the lowest number moves on day 1 and every day behind it that it must.
         house(4, 0, 1, 5, 0, 14);
         house(4, 0, 2, 5, 0, 4);
@@ -197,6 +204,13 @@ public final class OddsTest {
         shoe(new int[] {2, 1, 4, 2, 6, 3, 1, 0, 3, 1}, 0, 1, 0, 2);
         shoe(new int[] {5, 1, 5, 3}, 2, 0, 1, 1);
         shoe(new int[] {100, 33, 200, 66, 1, 0}, 0, 1, -1, 3);
+        // What C 21, A 21 or B 21 would do better.
+        shoe(new int[] {420, 20, 840, 40, 630, 30, 210, 10}, 2, 1, -20, 20);
+        shoe(new int[] {20, 399, 10, 189, 5, 84}, 15, 20, -11, 1);
+        shoe(new int[] {1, 600, 2, 600}, 1100, 20, 20, 1);
+        shoe(new int[] {19, 0, 38, 1, 57, 2, 76, 3, 95, 4}, 0, 1, -20, 16);
+        shoe(new int[] {100, 5, 200, 10, 300, 15, 999, 50}, 0, 1, 1, 20);
+        shoe(new int[] {1, 0, 999, 590, 500, 295}, 3, 10, 6, 17);
         LeaningWheel x = new LeaningWheel(5);
         c.due("33: none seen", x.shoe(0), -1000);
         int[][] wrong = {{0, 0}, {1000, 0}, {1, -1}, {1, 601}, {MIN, MIN}, {MAX, MAX}};

@@ -217,6 +217,10 @@ public final class WheelTest {
         c.due("15: of none", x.odds(0, 3, 3), 0);
         x.stud(2, 2, 0, 5, 5, 0);
         c.due("15: at a wheel", x.odds(2, 3, 3), 10000);
+        // 50 points on in 4 tenths, the dish from 7 to -5: stud 6, (60 + 5) / 8.
+        c.due("14: dish and turn", x.start(1, 8, 12, 7, 3, 2), 1);
+        c.due("15: dish and turn", x.odds(3, 1, 8), 2000);
+        c.due("15: the first hand's", x.odds(3, 0, 1), 9000);
         int[][] wrong = {{4, 0, 1, 0, 0, 1}, {-1, 0, 1, 0, 0, 1}, {0, 80, 1, 0, 0, 1}, {0, -1, 1, 0, 0, 1},
             {0, 0, 0, 0, 0, 1}, {0, 0, 1000, 0, 0, 1}, {0, 0, 1, 80, 0, 1}, {0, 0, 1, -1, 0, 1}, {0, 0, 1, 0, 100, 1},
             {0, 0, 1, 0, -1, 1}, {0, 0, 1, 0, 0, 0}, {0, 0, 1, 0, 0, 10}, {MAX, MAX, MAX, MAX, MAX, MAX}};
