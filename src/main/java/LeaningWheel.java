@@ -1062,23 +1062,16 @@ public final class LeaningWheel {
         /** Which word stands from first to at; NONE of those that there are. */
         private int wordAt() {
             for (int i = 0; i < WORDS; i++) {
-                if (isSpelled(word(i))) {
+                String word = word(i);
+                int like = 0;
+                while (like < word.length() && first + like < at && tape[first + like] == word.charAt(like)) {
+                    like++;
+                }
+                if (like == word.length() && first + like == at) {
                     return i;
                 }
             }
             return NONE;
-        }
-
-        private boolean isSpelled(String word) {
-            if (word.length() != at - first) {
-                return false;
-            }
-            for (int i = 0; i < word.length(); i++) {
-                if (tape[first + i] != word.charAt(i)) {
-                    return false;
-                }
-            }
-            return true;
         }
 
         private static String word(int i) {
