@@ -7,6 +7,8 @@ public final class BookTest {
     public static void main(String[] args) {
         writing();
         scratching();
+        toldTwice();
+        toldElsewhere();
         likeliest();
         manySpins();
         falling();
@@ -61,6 +63,55 @@ public final class BookTest {
         for (int[] w : asked) {
             c.due("18: wrong", x.which(w[0], w[1]), -1);
         }
+    }
+
+    /** Two tables told one and the same: no way, whichever of them has spins. */
+    private static void toldTwice() {
+        for (int first = 0; first < 3; first++) {
+            for (int second = first + 1; second < 3; second++) {
+                for (int spins = 0; spins < 8; spins++) {
+                    LeaningWheel x = new LeaningWheel(10);
+                    x.scratch(2, first, 1);
+                    x.scratch(2, second, 1);
+                    int at = 0;
+                    for (int table = 0; table < 3; table++) {
+                        if ((spins >> table & 1) == 1) {
+                            x.write(2, table, 0, 4);
+                            at = table;
+                        }
+                    }
+                    c.due("18: no way with spins " + spins, x.which(2, -2), 0);
+                    c.due("18: nor a WHEEL", x.which(2, at), -1);
+                    c.due("18: nor SURE", x.which(2, -1), -1);
+                    c.due("19: nor FALLS", x.falls(1, -1), 0);
+                    x.scratch(2, second, -1);
+                    c.due("18: a way again", x.which(2, -2) > 0, true);
+                }
+            }
+        }
+    }
+
+    /** A WHEEL told of a table is at no other, though that table has no spins. */
+    private static void toldElsewhere() {
+        LeaningWheel x = new LeaningWheel(10);
+        x.pocket(2, 4, 10, 99);
+        x.write(0, 1, 0, 4);
+        c.due("18: the likeliest of all", x.which(0, 1), 2);
+        x.scratch(0, 2, 2);
+        c.due("18: it is elsewhere", x.which(0, 1), 0);
+        c.due("18: three are left", x.which(0, -2), 3);
+        x.scratch(0, 0, 0);
+        c.due("18: two are", x.which(0, -2), 2);
+        c.due("18: the lower of them", x.which(0, 1), 1);
+        c.due("18: SURE of two", x.which(0, -1), 500);
+        c.due("18: another evening", x.which(1, -2), 1);
+        x.write(1, 1, 0, 4);
+        c.due("18: another evening's", x.which(1, 1), 2);
+        x.scratch(0, 1, 3);
+        c.due("18: told there", x.which(0, 1), 3);
+        c.due("18: surely", x.which(0, -1), 1000);
+        c.due("19: FALLS where it stood", x.falls(3, 4), 1);
+        c.due("19: and in another evening", x.falls(2, 4), 1);
     }
 
     private static void likeliest() {
@@ -197,6 +248,14 @@ public final class BookTest {
         for (int[] w : wrong) {
             c.due("25: wrong", x.habit(w[0], w[1], w[2]), -1);
         }
+        // In the order WRITTEN, whichever evening and table it is: distances 2, 5, not 35, 30.
+        LeaningWheel z = new LeaningWheel(37);
+        z.write(3, 2, 0, 8);
+        z.write(0, 0, 0, 10);
+        z.write(1, 1, 0, 15);
+        c.due("25: in the order WRITTEN", z.habit(0, 1, 0), 2);
+        c.due("25: in the order WRITTEN, both", z.habit(0, 4, 0), 2);
+        c.due("25: in the order WRITTEN, both in it", z.habit(0, 4, 1), 2);
         LeaningWheel y = new LeaningWheel(5);
         y.write(0, 0, 0, 4);
         y.write(0, 0, 0, 3);

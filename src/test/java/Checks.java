@@ -23,21 +23,11 @@ final class Checks {
 
     /** Puts a text, and nothing else, on the tape. */
     static void type(LeaningWheel x, String text) {
-        x.end(0);
-        int[] v = new int[5];
-        for (int i = 0; i < text.length(); i += 20) {
-            java.util.Arrays.fill(v, 0);
-            for (int k = 0; k < 20 && i + k < text.length(); k++) {
-                v[k / 4] |= text.charAt(i + k) << 24 - k % 4 * 8;
-            }
-            x.feed(v[0], v[1], v[2], v[3], v[4]);
-        }
-        x.end(text.length());
+        Calls.type(x, text);
     }
 
     static int read(LeaningWheel x, String text) {
-        type(x, text);
-        return x.text();
+        return Calls.read(x, text);
     }
 
     void fault(String text, int why, int place) {

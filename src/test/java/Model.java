@@ -153,13 +153,13 @@ final class Model {
         return false;
     }
 
-    int feed(int... five) {
+    int feed(int a, int b, int c, int d, int e) {
         if (tape.size() + 20 > 300) {
             return -1;
         }
-        for (int v : five) {
-            for (byte b : java.nio.ByteBuffer.allocate(4).putInt(v).array()) {
-                tape.add(b & 255);
+        for (int v : new int[] {a, b, c, d, e}) {
+            for (byte one : java.nio.ByteBuffer.allocate(4).putInt(v).array()) {
+                tape.add(one & 255);
             }
         }
         return tape.size();

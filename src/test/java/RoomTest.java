@@ -1,33 +1,40 @@
 import java.lang.management.ManagementFactory;
 import java.util.Random;
 
-/** All calls of a run live in one room, so a call makes nothing: told by the bytes that this thread takes. */
+/** All calls of a run live in one room of 7.3 million fields and elements: told by the bytes that this thread takes. */
 public final class RoomTest {
-    private static final int ROUNDS = 40;
+    /** Of an object's 512 calls: a round is 75 of them. */
+    private static final int ROUNDS = 6;
+    private static final long ROOM = 4L * 7300000;
 
     public static void main(String[] args) {
         com.sun.management.ThreadMXBean threads =
                 (com.sun.management.ThreadMXBean) ManagementFactory.getThreadMXBean();
         long own = Thread.currentThread().getId();
-        LeaningWheel x = new LeaningWheel(37);
-        Checks.read(x, "loss speed / 10 + min(tenth, 3); off 8; stake 1 + lost; on most;");
-        use(x, new Random(1));
+        // What the machine itself takes at first, for the classes, isn't the run's.
+        run(37);
+        run(5);
         long ahead = threads.getThreadAllocatedBytes(own);
-        for (int i = 0; i < ROUNDS; i++) {
-            use(x, new Random(i));
-        }
+        run(37);
         long taken = threads.getThreadAllocatedBytes(own) - ahead;
-        System.out.println(taken + " bytes in " + ROUNDS + " rounds of 35 calls and more");
-        // The test's own random numbers take some; a row of 40 in each call would take 160 bytes * 35 * 40.
-        if (taken > ROUNDS * 800) {
-            System.out.println("calls make objects");
+        System.out.println(taken + " bytes in a run of 450 calls");
+        if (taken > ROOM) {
+            System.out.println("more than the room has");
             System.exit(1);
         }
     }
 
-    private static void use(LeaningWheel x, Random random) {
+    private static void run(int n) {
+        LeaningWheel x = new LeaningWheel(n);
+        for (int i = 0; i < ROUNDS; i++) {
+            use(x, n, new Random(i));
+        }
+    }
+
+    /** Each call with what is dear to it. */
+    private static void use(LeaningWheel x, int n, Random random) {
         int a = random.nextInt(4);
-        int p = random.nextInt(37);
+        int p = random.nextInt(n);
         x.back();
         x.pocket(a, p, 3, 5);
         x.stud(a, 3, 4, 3, 2, 1);
@@ -35,25 +42,35 @@ public final class RoomTest {
         x.late(2, 2, 2, 2, 2);
         x.pays(35);
         x.end(0);
+        x.feed(0x6f666620, 0x2d2d2d31, 0x3b6c6f73, 0x73203120, 0x2b32202a);
+        x.feed(0x28746966, 0x74207370, 0x6f696e20, 0x74200a3b, 0x20202020);
+        x.text();
+        x.end(0);
+        x.feed(0x6f66663b, 0x20202020, 0x20202020, 0x20202020, 0x20202020);
+        x.text();
         x.feed(0x6f6e2031, 0x3b202020, 0x20202020, 0x20202020, 0x20202020);
         x.text();
         x.fault(0);
         x.law(0);
-        x.drop(a, p, 100, p, 9, 0);
-        x.foretold(a, p, 100, p, 9, 0);
-        x.start(a, p, 100, p, 9, 3);
+        for (int i = 0; i < 6; i++) {
+            x.start(a, p, 999, p, 9, 3);
+        }
+        x.drop(a, p, 999, p, 9, 0);
+        x.foretold(a, p, 999, p, 9, 0);
         x.odds(a, a, p);
         for (int i = 0; i < 24; i++) {
-            x.write(a, i % 3, i % 4, (p * i) % 37);
+            x.write(a, i % 3, i % 4, p * i % n);
         }
         x.scratch(a, 0, a);
         x.which(a, -1);
         x.falls(a, p);
         x.nine(a, 3, 1);
-        x.above(60, 9, 9);
-        x.among(60, 9, 9);
-        x.span(60, p, 100, true);
-        x.need(100, 1000, 500, 0);
+        x.above(60, 9, 4);
+        x.among(60, 9, 4);
+        for (int i = 0; i < 4; i++) {
+            x.span(60, 15 * i, 1000000, i % 2 == 0);
+            x.need(100 + i, 1000000, 500, 0);
+        }
         x.habit(a, 2, 3);
         x.goal(20, 40, 10, 400, 0);
         x.luck(4, 2, 20, 2);
@@ -63,6 +80,7 @@ public final class RoomTest {
         x.house(20, 5, 2, 7, 0);
         x.seen(p + 1, p);
         x.shoe(0);
+        x.image();
         x.about(20);
     }
 }

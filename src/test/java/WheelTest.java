@@ -6,6 +6,8 @@ public final class WheelTest {
 
     public static void main(String[] args) {
         making();
+        atFirst(5);
+        atFirst(37);
         telling();
         tenths();
         dropping();
@@ -29,6 +31,30 @@ public final class WheelTest {
         x.write(0, 0, 0, 0);
         c.due("1: back to the first image", x.back(), 0);
         c.due("1: pay of the first image", x.about(7), 35);
+    }
+
+    /** HOLD 10, SKIPS 10 for 0, TILT 0, LEAN 10, LATE 10 for 0, PAY 35, no LAW, of each WHEEL and POCKET. */
+    private static void atFirst(int n) {
+        for (int wheel = 0; wheel < 4; wheel++) {
+            LeaningWheel x = new LeaningWheel(n);
+            c.due("1: LEANS at first", x.about(20 + wheel), 10 * n);
+            for (int pocket = 0; pocket < n; pocket++) {
+                // STUD 1 at N; the DISH puts the POCKET under it.
+                int dish = (n - 8 * pocket + 8 * n) % (8 * n);
+                c.due("1: HOLD of " + pocket + " at first", x.drop(wheel, 0, 1, dish, 0, 100 + pocket), 1000);
+            }
+            for (int stud = 0; stud < 8; stud++) {
+                c.due("1: SKIPS of " + stud + " at first", x.drop(wheel, (stud + 7) % 8 * n, 1, 0, 0, 100 + stud * n / 8),
+                        1000);
+            }
+            c.due("1: LATE at first", x.foretold(wheel, 0, 1, 0, 8, 100 + n / 8), 10000);
+            c.due("1: PAY at first", x.foretold(wheel, 0, 1, 0, 8, 2), 350000);
+            Checks.read(x, "off 20 + tilt;");
+            c.due("1: no LAW at first", x.drop(wheel, 0, 20, 0, 0, 0), 12);
+            x.law(0);
+            c.due("1: TILT at first, off", x.drop(wheel, 0, 20, 0, 0, 0), 0);
+            c.due("1: TILT at first", x.drop(wheel, 0, 21, 0, 0, 0), 1);
+        }
     }
 
     private static void telling() {
