@@ -22,6 +22,7 @@ public final class RandomRunsTest {
     }
 
     public static void main(String[] args) {
+        Ends.inTime();
         int runs = args.length > 0 ? Integer.parseInt(args[0]) : 250;
         int from = args.length > 1 ? Integer.parseInt(args[1]) : 0;
         for (int seed = from; seed < from + runs && wrong < 20; seed++) {

@@ -8,6 +8,7 @@ public final class RoomTest {
     private static final long ROOM = 4L * 7300000;
 
     public static void main(String[] args) {
+        Ends.inTime();
         com.sun.management.ThreadMXBean threads =
                 (com.sun.management.ThreadMXBean) ManagementFactory.getThreadMXBean();
         long own = Thread.currentThread().getId();

@@ -119,7 +119,7 @@ final class States {
         }
     }
 
-    /** All that later calls show; the looking changes the law, the tape and the latest FAULT. */
+    /** All that later calls show, by 267 calls; the looking changes the law, the tape and the latest FAULT. */
     static List<Integer> look(Object x) {
         List<Integer> seen = new ArrayList<>();
         int n = Calls.answer(x, "about", 0);
