@@ -1767,6 +1767,8 @@ public final class LeaningWheel {
         static final long HALF_THOUSANDTH = 1000000000000L;
         static final long HALF_MILLIONTH = 1000000000L;
         static final long FAR = 1L << 60;
+        /** More than 20 that were seen can be off together. */
+        static final int FARTHEST = 1 << 30;
 
         private final long[] high = new long[MOST_PURSE + 1];
         private final long[] low = new long[MOST_PURSE + 1];
@@ -1862,7 +1864,7 @@ public final class LeaningWheel {
                 return;
             }
             learnt = true;
-            least = Integer.MAX_VALUE;
+            least = FARTHEST;
             for (int cs = 1; cs <= 20; cs++) {
                 for (int as = 0; as <= 20; as++) {
                     for (int bs = -20; bs <= 20; bs++) {

@@ -54,10 +54,12 @@ public final class RulesTest {
     }
 
     private static void library(String bare) {
-        Matcher m = Pattern.compile("\\b(Math|Arrays|System|Integer|Long|String|StringBuilder)\\.(\\w+)").matcher(bare);
-        Set<String> ofArrays = Set.of("System.arraycopy", "Arrays.copyOf", "Arrays.copyOfRange", "Arrays.fill");
+        Matcher m = Pattern.compile("\\b(Math|Arrays|System|Integer|Long|String|StringBuilder)\\.(\\w+\\b(\\(?))").matcher(bare);
+        Set<String> ofArrays = Set.of("System.arraycopy(", "Arrays.copyOf(", "Arrays.copyOfRange(", "Arrays.fill(");
         while (m.find()) {
-            boolean ofNumbers = m.group(1).matches("Math|Integer|Long") && !m.group(2).endsWith("Exact");
+            // Functions alone: constants such as Integer.MAX_VALUE are none.
+            boolean ofNumbers = m.group(1).matches("Math|Integer|Long") && !m.group(2).endsWith("Exact(")
+                    && !m.group(3).isEmpty();
             look(ofNumbers || ofArrays.contains(m.group()), "4: " + m.group());
         }
         Set<String> may = Set.of("java.util.Arrays", "java.util.ArrayList", "java.util.List", "java.util.Iterator");
