@@ -606,5 +606,11 @@ public final class LimitsTest {
         shoe(new int[] {22, 1, 42, 21}, 2, 1, -20, 1);
         shoe(new int[] {999, 49}, 0, 1, -19, 20);
         shoe(new int[] {999, 50}, 0, 1, 1, 20);
+        // Of like ones there is one of a lower A or B, but of a higher C: 1 17 3, 2 2 3, 1 8 14, 3 0 4, 2 17 5.
+        shoe(new int[] {2, 6, 3, 1, 1, 11, 4, 20}, 23, 13, -14, 2);
+        shoe(new int[] {3, 2, 2, 5, 3, 0, 5, 5}, 6, 3, -4, 2);
+        shoe(new int[] {15, 1, 23, 4, 19, 1, 6, 1}, 2, 2, -18, 7);
+        shoe(new int[] {3, 3, 1, 0, 5, 2, 4, 4}, 3, 4, -3, 3);
+        shoe(new int[] {26, 13, 1, 1, 23, 19, 4, 10}, 14, 3, 4, 4);
     }
 }
